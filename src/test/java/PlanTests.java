@@ -6,7 +6,7 @@ import java.util.Random;
 
 /** THE PLAN against a search that goes through every plan, as part 3 of the document tells it. */
 public final class PlanTests {
-    private static final int CASES = 4000;
+    private static final int CASES = 40000;
     private static int wrong = 0;
 
     private record Boat(int number, int side, int minute, int length, int rank) { }
@@ -73,13 +73,20 @@ public final class PlanTests {
         return s.charAt(at) << 24 | s.charAt(at + 1) << 16 | s.charAt(at + 2) << 8 | s.charAt(at + 3);
     }
 
+    private static void ice(BoatLift x, Search search, int from, int length) {
+        search.ice.add(new int[] {from, from + length});
+        x.ice(from, from + length);
+    }
+
     private static void compare(int seed) {
         Random random = new Random(seed);
         BoatLift x = new BoatLift();
         Search search = new Search();
         int t = 1 + random.nextInt(20);
         int g = random.nextInt(3);
-        search.more = random.nextInt(4) == 0 ? 0 : random.nextInt(40);
+        // hard ice of a few minutes just when boats come is where an empty ride, or none, tells most
+        boolean hard = seed % 2 == 1;
+        search.more = hard ? 60 + random.nextInt(40) : random.nextInt(4) == 0 ? 0 : random.nextInt(40);
         search.lasts = t + 2 * g;
         String law = "t" + t + ";g" + g + ";i" + search.more;
         String padded = law + " ".repeat(20 - law.length());
@@ -88,11 +95,8 @@ public final class PlanTests {
         search.trough = 10 + random.nextInt(60);
         x.trough(search.trough);
         int span = 1 + random.nextInt(120);
-        for (int i = random.nextInt(6); i > 0; i--) {
-            int from = random.nextInt(span + 20);
-            int to = from + 1 + random.nextInt(20);
-            search.ice.add(new int[] {from, to});
-            x.ice(from, to);
+        for (int i = hard ? 0 : random.nextInt(6); i > 0; i--) {
+            ice(x, search, random.nextInt(span + 20), 1 + random.nextInt(20));
         }
         int free = 0;
         int side = 0;
@@ -108,6 +112,9 @@ public final class PlanTests {
             Boat boat = new Boat(b, random.nextInt(2), random.nextInt(span), 1 + random.nextInt(longest), random.nextInt(ranks));
             search.boats.add(boat);
             told.append(boat).append(' ');
+            if (hard && random.nextInt(3) > 0) {
+                ice(x, search, Math.max(0, boat.minute - random.nextInt(2)), 1 + random.nextInt(3));
+            }
             due("boat", x.boat(boat.side, boat.minute, boat.length, 1, 1, boat.rank), b);
         }
         search.walk(free, side, new boolean[boats], 0, true, false);

@@ -526,6 +526,13 @@ public final class PromiseTests {
         due("13: waiting for a boat of the other side, out of the ice", x.plan(), 1 + 16);
         due("14: waiting for a boat of the other side, out of the ice", x.ends(), 33);
         x = new BoatLift();
+        law(x, "i99");
+        x.ice(31, 32);
+        x.boat(0, 31, 10, 1, 1, 0);
+        x.boat(1, 48, 10, 1, 1, 0);
+        due("13: two empty ones would pass the ice by", x.plan(), 33);
+        due("14: two empty ones would pass the ice by", x.ends(), 80);
+        x = new BoatLift();
         x.trough(10);
         x.boat(0, 0, 10, 1, 1, 3);
         x.boat(0, 0, 10, 1, 1, 0);
