@@ -532,6 +532,7 @@ public final class PromiseTests {
         x.boat(1, 48, 10, 1, 1, 0);
         due("13: two empty ones would pass the ice by", x.plan(), 33);
         due("14: two empty ones would pass the ice by", x.ends(), 80);
+        longPlans();
         x = new BoatLift();
         x.trough(10);
         x.boat(0, 0, 10, 1, 1, 3);
@@ -544,6 +545,23 @@ public final class PromiseTests {
         x.boat(0, 10, 10, 1, 1, 0);
         due("13: better to wait", x.plan(), 10);
         due("14: better to wait", x.ends(), 26);
+    }
+
+    private static void longPlans() {
+        BoatLift x = new BoatLift();
+        for (int b = 0; b < 6; b++) {
+            x.boat(1, 100 * b + 100, 10, 1, 1, 0);
+        }
+        due("13: an empty ride and a wait ahead of each", x.plan(), 0);
+        due("14: an empty ride and a wait ahead of each", x.ends(), 616);
+        x = new BoatLift();
+        law(x, "t999;g99;i99");
+        x.ride(18803, 0);
+        for (int b = 0; b < 6; b++) {
+            x.boat(0, 0, 100, 1, 1, 0);
+        }
+        due("13: the longest waits", x.plan(), 6 * 20000 + 1197 * (1 + 3 + 5 + 7 + 9 + 11));
+        due("14: the latest end", x.ends(), 20000 + 12 * 1197);
     }
 
     private static void waters() {
