@@ -44,7 +44,7 @@ public final class PromiseTests {
         return all.toString().trim();
     }
 
-    /** Everything that the face tells of an object, so that a refused call can be seen to change nothing. */
+    /** Everything that the face tells of an object. BoundaryTests asks it behind each refused call; here, once behind all of them. */
     private static String state(BoatLift x) {
         StringBuilder all = new StringBuilder();
         for (int what = -1; what <= 22; what++) {
@@ -60,11 +60,6 @@ public final class PromiseTests {
             }
         }
         return all.append("| ").append(x.plan()).append(' ').append(x.ends()).toString();
-    }
-
-    private static void refused(String what, BoatLift x, String before, Object got, Object want) {
-        due(what, got, want);
-        due(what + ", the state behind it", state(x), before);
     }
 
     private static void newObject() {
@@ -186,8 +181,9 @@ public final class PromiseTests {
         due("4: its length", x.count(0), 200);
         String before = state(x);
         for (int n : new int[] {9, 201, 0, -1, MIN, MAX}) {
-            refused("4: trough(" + n + ")", x, before, x.trough(n), false);
+            due("4: trough(" + n + ")", x.trough(n), false);
         }
+        due("4: those refused changed nothing", state(x), before);
     }
 
     private static void area() {
@@ -207,8 +203,9 @@ public final class PromiseTests {
         String before = state(x);
         int[][] bad = {{0, 0}, {0, 10001}, {0, -1}, {1, 0}, {1, 10001}, {2, 5}, {-1, 5}, {MIN, 5}, {MAX, 5}, {0, MIN}, {1, MAX}};
         for (int[] b : bad) {
-            refused("5: area(" + b[0] + ", " + b[1] + ")", x, before, x.area(b[0], b[1]), false);
+            due("5: area(" + b[0] + ", " + b[1] + ")", x.area(b[0], b[1]), false);
         }
+        due("5: those refused changed nothing", state(x), before);
     }
 
     private static void flow() {
@@ -224,8 +221,9 @@ public final class PromiseTests {
         String before = state(x);
         int[][] bad = {{0, 1000001}, {0, -1000001}, {1, MIN}, {1, MAX}, {2, 0}, {-1, 0}, {MIN, 1}, {MAX, 1}};
         for (int[] b : bad) {
-            refused("6: flow(" + b[0] + ", " + b[1] + ")", x, before, x.flow(b[0], b[1]), false);
+            due("6: flow(" + b[0] + ", " + b[1] + ")", x.flow(b[0], b[1]), false);
         }
+        due("6: those refused changed nothing", state(x), before);
         BoatLift y = new BoatLift();
         y.area(0, 1);
         for (int i = 0; i < 500; i++) {
@@ -291,14 +289,15 @@ public final class PromiseTests {
             for (int n : new int[] {bad[i][0], bad[i][1], MIN, MAX}) {
                 int[] a = good.clone();
                 a[i] = n;
-                refused("8: argument " + i + " is " + n, x, before, x.boat(a[0], a[1], a[2], a[3], a[4], a[5]), NONE);
+                due("8: argument " + i + " is " + n, x.boat(a[0], a[1], a[2], a[3], a[4], a[5]), NONE);
             }
         }
+        due("8: those refused changed nothing", state(x), before);
         for (int b = 2; b < 16; b++) {
             due("8: boat", x.boat(0, b, b, b, b, b % 4), b);
         }
         due("8: count(5)", x.count(5), 16);
-        refused("8: the seventeenth", x, state(x), x.boat(0, 0, 1, 1, 1, 0), NONE);
+        due("8: the seventeenth", x.boat(0, 0, 1, 1, 1, 0), NONE);
         due("8: count(5)", x.count(5), 16);
     }
 
@@ -372,8 +371,9 @@ public final class PromiseTests {
         int[][] bad = {{-1, 0}, {20001, 0}, {MIN, 0}, {MAX, 0}, {6, -1}, {6, 3}, {2, 1}, {4, 2}, {6, MIN}, {6, MAX}, {19985, 0}, {20000, 0}};
         String before = state(x);
         for (int[] b : bad) {
-            refused("11: ride(" + b[0] + ", " + b[1] + ")", x, before, x.ride(b[0], b[1]), NONE);
+            due("11: ride(" + b[0] + ", " + b[1] + ")", x.ride(b[0], b[1]), NONE);
         }
+        due("11: those refused changed nothing", state(x), before);
         due("11: ride", x.ride(7, 2), 23);
         due("11: side", x.count(1), 1);
         due("11: free", x.count(2), 23);
@@ -388,7 +388,7 @@ public final class PromiseTests {
         due("11: waited", x.look(1, 8), 2);
         due("11: the third isn't carried", x.look(2, 7), NONE);
         due("11: its side is as told", x.look(0, 0), 0);
-        refused("11: not free", x, state(x), x.ride(22, 0), NONE);
+        due("11: not free", x.ride(22, 0), NONE);
         due("11: down", x.ride(23, 1), 39);
         due("11: lower, a leak of one", x.stock(0), 130L - 2000 + 1);
         due("11: upper, a leak of one", x.stock(1), -130L + 2000 - 1);
@@ -411,7 +411,7 @@ public final class PromiseTests {
         due("11: ride 2", x.ride(1, 0), 2);
         due("11: ride 3", x.ride(2, 0), 3);
         due("11: leaks", x.stock(0), 3L);
-        refused("11: worn", x, state(x), x.ride(3, 0), NONE);
+        due("11: worn", x.ride(3, 0), NONE);
         law(x, "s2;t1;g0");
         due("11: more than it bears", x.ride(3, 0), NONE);
         law(x, "s4;t1;g0");
@@ -445,8 +445,9 @@ public final class PromiseTests {
         x.ride(0, 1);
         String before = state(x);
         for (int minute : new int[] {15, -1, 20001, MIN, MAX, 19971, 20000}) {
-            refused("12: renew(" + minute + ")", x, before, x.renew(minute), NONE);
+            due("12: renew(" + minute + ")", x.renew(minute), NONE);
         }
+        due("12: those refused changed nothing", state(x), before);
         due("12: renew", x.renew(16), 46);
         due("12: free", x.count(2), 46);
         due("12: seal", x.count(3), 0);
